@@ -836,8 +836,12 @@ public final class FiberLoom {
         int[] rowInstruction = rowOp;
         int[] rowSite = rowOp;
         int[] siteRow = rowOp;
+        /** How many on each site's STACK. */
+        int[] siteStack = rowOp;
         /** Where each site's AWAY begins, and behind the last one where all rows end. */
         int[] siteAway = rowOp;
+        int[] siteAgain = rowOp;
+        /** Where the rows of each instruction begin. */
         final int[] first;
         int codeRows;
         int siteCount;
@@ -875,6 +879,8 @@ public final class FiberLoom {
             rowInstruction = new int[rowOp.length];
             rowSite = new int[rowOp.length];
             siteRow = new int[Math.max(siteCount, 0)];
+            siteStack = new int[siteRow.length];
+            siteAgain = new int[siteRow.length];
             siteAway = new int[siteRow.length + 1];
             codeRows = 0;
             siteCount = 0;
@@ -884,13 +890,23 @@ public final class FiberLoom {
             for (int i = 0; i < method.count; i++) {
                 weaveInstruction(i);
             }
-            int away = codeRows;
+            placeSites();
+        }
+
+        private void placeSites() {
+            int place = codeRows;
             for (int s = 0; s < siteCount; s++) {
-                siteAway[s] = away;
-                away += againOf(s) - siteAway[s] + lengthOfAgain(s);
+                int i = rowInstruction[siteRow[s]];
+                Method callee = calleeOfSite(s);
+                int params = callee == null ? 0 : callee.params;
+                int ofSlots = 2 * Integer.bitCount(method.live[i]);
+                siteStack[s] = method.depth[i] - params;
+                siteAway[s] = place;
+                siteAgain[s] = place + siteStack[s] + ofSlots + 1;
+                place = siteAgain[s] + ofSlots + siteStack[s] + params + 1;
             }
-            siteAway[siteCount] = away;
-            rowCount = away;
+            siteAway[siteCount] = place;
+            rowCount = place;
         }
 
         private void countRows() {
@@ -944,12 +960,6 @@ public final class FiberLoom {
             return site < 0 || site >= siteCount ? NONE : instructionOf(siteRow[site]);
         }
 
-        /** How many params a CALL's own site leaves out; 0 of any other site. */
-        int paramsOfSite(int site) {
-            Method callee = calleeOfSite(site);
-            return callee == null ? 0 : callee.params;
-        }
-
         /** The method that a CALL's own site calls; null of any other site. */
         Method calleeOfSite(int site) {
             if (site < 0 || site >= siteCount) {
@@ -960,24 +970,11 @@ public final class FiberLoom {
         }
 
         int stackOfSite(int site) {
-            int i = instructionOfSite(site);
-            return i < 0 ? 0 : method.depth[i] - paramsOfSite(site);
-        }
-
-        int livesOfSite(int site) {
-            int i = instructionOfSite(site);
-            return i < 0 ? 0 : method.live[i];
+            return site < 0 || site >= siteCount ? 0 : siteStack[site];
         }
 
         int againOf(int site) {
-            if (site < 0 || site >= siteCount) {
-                return rowCount;
-            }
-            return siteAway[site] + stackOfSite(site) + 2 * Integer.bitCount(livesOfSite(site)) + 1;
-        }
-
-        private int lengthOfAgain(int site) {
-            return 2 * Integer.bitCount(livesOfSite(site)) + stackOfSite(site) + paramsOfSite(site) + 1;
+            return site < 0 || site >= siteCount ? rowCount : siteAgain[site];
         }
 
         /** Tells a row's op and number in the fields of these names. */
@@ -992,11 +989,13 @@ public final class FiberLoom {
                 return;
             }
             findSite(row);
-            int again = againOf(found);
-            if (row < again) {
+            if (found >= siteCount) {
+                return;
+            }
+            if (row < siteAgain[found]) {
                 findAway(row - siteAway[found]);
             } else {
-                findAgain(row - again);
+                findAgain(row - siteAgain[found]);
             }
         }
 
@@ -1021,9 +1020,9 @@ public final class FiberLoom {
         }
 
         private void findAway(int offset) {
-            int i = instructionOfSite(found);
-            int stack = stackOfSite(found);
-            int lives = livesOfSite(found);
+            int i = rowInstruction[siteRow[found]];
+            int stack = siteStack[found];
+            int lives = method.live[i];
             int behind = offset - stack;
             if (offset < stack) {
                 op = PACK;
@@ -1039,23 +1038,23 @@ public final class FiberLoom {
         }
 
         private void findAgain(int offset) {
-            int i = instructionOfSite(found);
-            int stack = stackOfSite(found);
-            int lives = livesOfSite(found);
+            int i = rowInstruction[siteRow[found]];
+            int stack = siteStack[found];
+            int lives = method.live[i];
             int ofSlots = 2 * Integer.bitCount(lives);
             int behind = offset - ofSlots;
-            if (offset < ofSlots) {
+            if (siteAgain[found] + offset + 1 == siteAway[found + 1]) {
+                op = JUMP;
+                number = siteRow[found];
+            } else if (offset < ofSlots) {
                 int slot = bitAt(lives, (ofSlots - 1 - offset) >> 1);
                 op = (offset & 1) == 0 ? UNPACK : STORE;
                 number = op == STORE ? slot : (method.slotRefs[i] >>> slot) & 1;
             } else if (behind < stack) {
                 op = UNPACK;
                 number = (method.stackRefs[i] >>> behind) & 1;
-            } else if (behind < stack + paramsOfSite(found)) {
-                op = ((method.stackRefs[i] >>> behind) & 1) == 0 ? PUSH : PUSH_NONE;
             } else {
-                op = JUMP;
-                number = siteRow[found];
+                op = ((method.stackRefs[i] >>> behind) & 1) == 0 ? PUSH : PUSH_NONE;
             }
         }
 
@@ -1282,7 +1281,9 @@ public final class FiberLoom {
             height[depth] = 0;
             eachNext[depth] = 0;
             eachEnd[depth] = 0;
-            Arrays.fill(slots, depth * MOST_SLOTS, (depth + 1) * MOST_SLOTS, 0);
+            for (int k = 0; k < MOST_SLOTS; k++) {
+                slots[depth * MOST_SLOTS + k] = 0;
+            }
             depth++;
             return true;
         }
@@ -1641,10 +1642,8 @@ public final class FiberLoom {
             if (next != null) {
                 thing.owner = next.number;
                 thing.count = Math.max(next.waitCount, 1);
-                boolean passing = !next.killedWaiting;
                 next.waitCount = 0;
-                next.killedWaiting = false;
-                becomeReady(next, passing);
+                becomeReady(next, !next.killedWaiting);
             }
         }
 
@@ -1954,8 +1953,10 @@ public final class FiberLoom {
                 changeFrames(method, i);
             } else if (op == KILL || op == FREE || op == WAKE) {
                 useFiberOrLock(op, method.told[i]);
+            } else if (op == SPAWN) {
+                spawn(world.methodAt(method.told[i]));
             } else {
-                useWorld(op, method.told[i]);
+                putOutOrSelf(op);
             }
         }
 
@@ -2107,35 +2108,27 @@ public final class FiberLoom {
             frames.goOn();
         }
 
-        private void useWorld(int op, int told) {
-            switch (op) {
-                case OUT:
-                    world.putOut(frames.pop());
-                    break;
-                case SELF:
-                    frames.push(fiber.self);
-                    break;
-                default:
-                    if (!spawn(world.methodAt(told))) {
-                        raise(TOO_MANY);
-                        return;
-                    }
-                    break;
+        private void putOutOrSelf(int op) {
+            if (op == OUT) {
+                world.putOut(frames.pop());
+            } else {
+                frames.push(fiber.self);
             }
             frames.goOn();
         }
 
-        private boolean spawn(Method callee) {
+        private void spawn(Method callee) {
             Fiber made = callee == null ? null : world.newFiber(callee.number);
             if (made == null) {
-                return false;
+                raise(TOO_MANY);
+                return;
             }
             for (int k = Math.min(callee.params, made.params.length) - 1; k >= 0; k--) {
                 made.params[k] = frames.pop();
             }
             frames.push(made.self);
+            frames.goOn();
             world.becomeReady(made, false);
-            return true;
         }
 
         private void useFiberOrLock(int op, int told) {
@@ -2260,7 +2253,6 @@ public final class FiberLoom {
             } else {
                 fiber.state = LOCKING;
                 fiber.target = o;
-                fiber.waitCount = 0;
                 thing.queue.add(fiber);
                 stop();
             }

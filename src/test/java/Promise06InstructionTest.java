@@ -8,6 +8,7 @@ public final class Promise06InstructionTest {
         wrongInputs(checks);
         lives(checks);
         merged(checks);
+        backs(checks);
         byChance(checks);
         checks.finish();
     }
@@ -78,6 +79,33 @@ public final class Promise06InstructionTest {
         checks.due("SPEND ahead of a jump back", looped.instruction(0, 1, 3), 1);
         checks.due("SPEND ahead of a jump to itself", looped.instruction(0, 2, 3), 1);
         checks.due("told with a jump", looped.instruction(0, 2, 1), 2);
+    }
+
+    /** Every kind of jump may be a BACK. */
+    private static void backs(Checks checks) {
+        Code code = new Code(0, 0, 0, 0);
+        int[] takes = {0, 1, 2, 1, 2};
+        for (int op = Code.JZERO; op <= Code.JSAME; op++) {
+            for (int at : new int[] {-1, 1}) {
+                Code one = new Code(0, 0, 0, 0);
+                for (int k = 0; k < takes[op - Code.JUMP]; k++) {
+                    one.op(op == Code.JNONE || op == Code.JSAME ? Code.NONE : Code.SELF);
+                    if (op == Code.JZERO || op == Code.JLESS) {
+                        one.with(Code.GET, 0);
+                    }
+                }
+                int jump = one.here();
+                one.with(op, at < 0 ? 0 : jump + 1).op(Code.RETURN);
+                FiberLoom loom = Code.loom(one);
+                checks.due("SPEND ahead of " + op, loom.instruction(0, jump, 3), at < 0 ? 1 : 0);
+                checks.due("suspendable by " + op, loom.method(0, 6), at < 0 ? 1 : 0);
+            }
+        }
+        code.with(Code.JUMP, 1).op(Code.RETURN);
+        checks.due("no SPEND ahead of a jump on", Code.loom(code).instruction(0, 0, 3), 0);
+        Code calls = new Code(0, 0, 0, 0).op(Code.RETURN).with(Code.CALL, 0).with(Code.JUMP, 0);
+        checks.due("nor of a CALL that isn't reached", Code.loom(calls).instruction(0, 1, 3), 0);
+        checks.due("nor of a BACK that isn't reached", Code.loom(calls).instruction(0, 2, 3), 0);
     }
 
     private static void byChance(Checks checks) {
