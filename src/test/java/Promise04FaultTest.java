@@ -165,6 +165,10 @@ public final class Promise04FaultTest {
         types("5 of a handler", 5, 0, 0, code().op(Code.YIELD).op(Code.RETURN, Code.RETURN).handler(0, 1, 1));
         types("5 of a handler ahead of the next", 5, 0, 1,
             code().op(Code.YIELD, Code.NONE, Code.DROP, Code.RETURN).handler(1, 2, 2));
+        types("5 of a handler whose AT was reached ahead of it", 5, 0, 2, code().push(1).with(Code.JZERO, 4)
+            .op(Code.YIELD, Code.RETURN, Code.RETURN).handler(2, 3, 4));
+        types("5 of a jump to a handler's AT", 5, 0, 1, code().op(Code.YIELD).with(Code.JUMP, 3).op(Code.DROP, Code.RETURN)
+            .handler(0, 1, 2).handler(0, 1, 3));
         types("6 at the end", 6, 0, 0, code().op(Code.YIELD));
         types("6 behind a jump", 6, 0, 1, code().push(0).with(Code.JZERO, 0));
         types("a handler at the next one", 5, 0, 0, code().op(Code.YIELD, Code.YIELD).handler(0, 1, 1));

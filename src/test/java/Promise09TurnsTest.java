@@ -206,6 +206,10 @@ public final class Promise09TurnsTest {
             .op(Code.ADD).with(Code.STORE, 0).with(Code.JUMP, 2).op(Code.OUT).with(Code.LOAD, 0).op(Code.OUT)
             .with(Code.SPAWN, 0).op(Code.DROP, Code.RETURN, Code.OUT, Code.RETURN).handler(2, 9, 9).handler(12, 13, 15);
         new Story(checks, "300 objects", 100, makes).turns(9, 3).output(-5, 299, -5).about(2, 300);
+        Code fills = code(0, 0).op(Code.NEW, Code.DROP).with(Code.JUMP, 0).op(Code.DROP).with(Code.CALL, 1)
+            .op(Code.RETURN).handler(0, 3, 3);
+        Code tries = code(0, 0).op(Code.NEW, Code.DROP, Code.RETURN, Code.OUT, Code.RETURN).handler(0, 1, 3);
+        new Story(checks, "raised by the first row", 100, fills, tries).turns(9, 3).output(-5).fiber(0, 1, 1);
         Code spawns = code(0, 1).push(0).with(Code.STORE, 0).with(Code.SPAWN, 1).op(Code.DROP).with(Code.LOAD, 0)
             .push(1).op(Code.ADD).with(Code.STORE, 0).with(Code.JUMP, 2).op(Code.OUT).with(Code.LOAD, 0)
             .op(Code.OUT, Code.NEW, Code.DROP, Code.RETURN).handler(2, 9, 9);
@@ -392,6 +396,33 @@ public final class Promise09TurnsTest {
         story.object(4, 8, 1).turns(11, 0).fiber(1, 0, 1).fiber(0, 0, 4).turns(1, 1).fiber(1, 0, 5).fiber(1, 1, 3)
             .fiber(1, 2, -9).fiber(1, 4, 0).fiber(1, 9, -1).object(2, 10, 0).object(4, 8, -1).output(-9);
         checks.due("nothing is packed", story.loom.packed(1, 0, -1) + story.loom.packed(1, 2, -1), 0);
+        abandonedFirst();
+        abandonedReady();
+    }
+
+    /** Fiber 0 waits, is killed by the one that owns the lock then, and is abandoned. */
+    private static void abandonedFirst() {
+        Code main = code(0, 0).op(Code.SELF, Code.LOCK, Code.SELF).with(Code.SPAWN, 1).op(Code.DROP, Code.SELF, Code.WAIT)
+            .op(Code.RETURN);
+        Code killer = new Code(1, 1, 0, 1).with(Code.LOAD, 0).op(Code.LOCK).with(Code.LOAD, 0).op(Code.KILL).push(99)
+            .op(Code.SLEEP, Code.RETURN);
+        new Story(checks, "fiber 0 ABANDONED", 5, main, killer).turns(1, 1).turns(1, 1).fiber(0, 0, 1).turns(11, 0)
+            .fiber(0, 0, 1).object(1, 20, 0).turns(1, 0).fiber(0, 0, 5).fiber(0, 1, 3).object(1, 10, 0).object(1, 8, 1);
+    }
+
+    /** Two that are READY, one of them PASSING, are killed and never chosen. */
+    private static void abandonedReady() {
+        Code main = code(0, 2).with(Code.SPAWN, 1).with(Code.STORE, 0).with(Code.SPAWN, 1).with(Code.STORE, 1)
+            .op(Code.YIELD).with(Code.LOAD, 0).op(Code.KILL).with(Code.LOAD, 1).op(Code.KILL, Code.YIELD)
+            .with(Code.JUMP, 9);
+        Code worker = code(0, 0).op(Code.SELF, Code.LOCK, Code.YIELD, Code.RETURN);
+        Story story = new Story(checks, "READY ones ABANDONED", 1, main, worker).run(0).run(1).run(0);
+        story.fiber(1, 5, 1).fiber(1, 6, 1).fiber(2, 5, 1).fiber(2, 6, 0).fiber(2, 4, 1).about(4, 3);
+        for (int k = 0; k < 11; k++) {
+            story.run(0).fiber(1, 0, 0).fiber(2, 0, 0);
+        }
+        story.turns(1, 1).fiber(1, 1, 3).fiber(1, 6, 0).fiber(1, 4, 0).fiber(2, 1, 3).fiber(2, 4, 0).about(4, 1);
+        story.object(2, 8, -1).object(2, 9, 0).frame(2, 0, 0, 0).fiber(1, 5, 1);
     }
 
     private static void ending() {

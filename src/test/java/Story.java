@@ -32,6 +32,26 @@ final class Story {
         return this;
     }
 
+    /** One turn in which a fiber that is in the ready row already runs. */
+    Story run(int f) {
+        int many = loom.about(0, 4);
+        int place = 0;
+        while (place < many && loom.about(0, 20 + place) != f) {
+            place++;
+        }
+        int seed = 0;
+        while ((seed * 1103515245 + 12345 >>> 16) % Math.max(many, 1) != place && seed < 100000) {
+            seed++;
+        }
+        checks.due(name + ": it can run", place < many && seed < 100000, true);
+        for (int w = 0; w < 2; w++) {
+            checks.due(at(w, "a turn"), loom.turns(w, 1, seed), 1);
+            checks.due(at(w, "a turn of the model"), models[w].turns(1, seed), 1);
+            compare.world(w, models[w]);
+        }
+        return this;
+    }
+
     Story output(int... wants) {
         for (int w = 0; w < 2; w++) {
             checks.due(at(w, "how many put out"), loom.about(w, 3), wants.length);
