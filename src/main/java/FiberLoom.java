@@ -485,7 +485,6 @@ public final class FiberLoom {
             slotSet = new int[this.count];
             slotRefs = new int[this.count];
             live = new int[this.count];
-            Arrays.fill(depth, NONE);
         }
 
         boolean reached(int i) {
@@ -658,6 +657,7 @@ public final class FiberLoom {
             if (m.count < 1) {
                 return;
             }
+            Arrays.fill(m.depth, NONE);
             m.depth[0] = 0;
             m.slotSet[0] = (1 << m.params) - 1;
             m.slotRefs[0] = m.types;
@@ -1726,9 +1726,9 @@ public final class FiberLoom {
 
         Runner(World world) {
             this.world = world;
-            frames = world.shared;
-            pack = new Pack(0, 0);
-            fiber = new Fiber(NONE, frames, pack);
+            fiber = new Fiber(NONE, world.shared, new Pack(0, 0));
+            frames = fiber.frames;
+            pack = fiber.pack;
         }
 
         void run(Fiber next) {
