@@ -24,9 +24,13 @@ final class Story {
     }
 
     Story turns(int n, int ran) {
+        return turns(n, ran, 1);
+    }
+
+    Story turns(int n, int ran, int seed) {
         for (int w = 0; w < 2; w++) {
-            checks.due(at(w, "turns"), loom.turns(w, n, 1), ran);
-            checks.due(at(w, "turns of the model"), models[w].turns(n, 1), ran);
+            checks.due(at(w, "turns"), loom.turns(w, n, seed), ran);
+            checks.due(at(w, "turns of the model"), models[w].turns(n, seed), ran);
             compare.world(w, models[w]);
         }
         return this;
