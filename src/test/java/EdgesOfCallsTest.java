@@ -19,6 +19,7 @@ public final class EdgesOfCallsTest {
         methodTells();
         beginRefused();
         beginAnew();
+        beginAnewAfterAll();
         turnsRefused();
         turnsSinceLoad();
         fiberTells();
@@ -284,6 +285,50 @@ public final class EdgesOfCallsTest {
             checks.due("begin again", loom.begin(w, 0, 7), true);
             checks.due("begin", other.begin(w, 0, 7), true);
             same("begin anew", Snapshot.of(other), loom);
+        }
+    }
+
+    /** Fibers of all states, KILLED ones and ABANDONED ones, with locks, QUEUES, WAITERS and fields that are set. */
+    private static Code[] everything() {
+        Code main = new Code(0, 0, 0, 2).op(Code.SELF, Code.LOCK, Code.SELF, Code.LOCK, Code.SELF).push(7).with(Code.PUT, 1)
+            .op(Code.SELF, Code.SELF).with(Code.KEEP, 2).out(3);
+        for (int m = 1; m <= 5; m++) {
+            main.op(Code.SELF).push(m).with(Code.SPAWN, m).with(Code.STORE, m % 2);
+        }
+        main.push(3).op(Code.SLEEP, Code.SELF, Code.WAIT).with(Code.LOAD, 0).op(Code.KILL).with(Code.LOAD, 1).op(Code.KILL, Code.YIELD)
+            .with(Code.JUMP, main.here() - 1);
+        Code locks = new Code(2, 1, 0, 2).with(Code.LOAD, 0).op(Code.LOCK).push(2).op(Code.SLEEP).with(Code.LOAD, 0)
+            .with(Code.WAKE, 0).op(Code.RETURN);
+        Code waits = new Code(2, 1, 0, 2).op(Code.SELF, Code.LOCK, Code.SELF, Code.LOCK, Code.SELF, Code.WAIT, Code.RETURN);
+        Code joins = new Code(2, 1, 0, 2).with(Code.LOAD, 0).op(Code.JOIN, Code.RETURN);
+        Code raises = new Code(2, 1, 0, 2).with(Code.LOAD, 1).op(Code.OUT, Code.NEW, Code.COPY).push(4).with(Code.PUT, 0).op(Code.LOCK)
+            .with(Code.LOAD, 1).op(Code.RAISE);
+        Code sleeps = new Code(2, 1, 1, 2).push(30).op(Code.SLEEP).with(Code.LOAD, 1).op(Code.RETURN);
+        Code quiet = code();
+        for (int k = 0; k < 8; k++) {
+            quiet.with(Code.SPAWN, 7).op(Code.DROP, Code.NEW, Code.DROP);
+        }
+        return new Code[] {main, locks, waits, joins, raises, sleeps, quiet.op(Code.YIELD, Code.RETURN), code().op(Code.YIELD, Code.RETURN)};
+    }
+
+    /** What was before begin() is nowhere to be seen behind it, however long it had run. */
+    private static void beginAnewAfterAll() {
+        for (int ran = 1; ran <= 30; ran++) {
+            FiberLoom used = Code.loom(everything());
+            FiberLoom fresh = Code.loom(everything());
+            for (int w = 0; w < 2; w++) {
+                used.begin(w, 0, 2);
+                used.turns(w, ran, ran);
+                used.begin(w, 6, 3);
+                fresh.begin(w, 6, 3);
+            }
+            same("begin behind " + ran + " turns", Snapshot.of(fresh), used);
+            for (int turn = 0; turn < 14; turn++) {
+                for (int w = 0; w < 2; w++) {
+                    checks.due("turns", used.turns(w, 1, turn), fresh.turns(w, 1, turn));
+                }
+                same("begin behind " + ran + " turns, turn " + turn, Snapshot.of(fresh), used);
+            }
         }
     }
 

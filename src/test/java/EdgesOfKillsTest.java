@@ -16,6 +16,7 @@ public final class EdgesOfKillsTest {
         ofOneSleeping();
         ofOneJoining();
         ofOneLockingByLock();
+        ofOneLockingBehindAWait();
         ofOneLockingByWake();
         ofOneWaiting();
         ofOneWaitingWithNoOwner();
@@ -172,6 +173,18 @@ public final class EdgesOfKillsTest {
         Story story = new Story(checks, "LOCKING", 5, main, worker).run(0).run(1).run(2).object(1, 10, 2).object(1, 20, 1).run(0);
         story.object(1, 10, 1).object(1, 20, 2).object(1, 8, 0).fiber(1, 0, 0).fiber(1, 6, 0).fiber(1, 9, -1).fiber(2, 0, 1);
         story.run(1).fiber(1, 2, -9).fiber(1, 3, 2).output().run(0).object(1, 8, 2).run(2).output(4);
+    }
+
+    /** One that had waited for a lock, and comes to a QUEUE by LOCK later, leaves it too. */
+    private static void ofOneLockingBehindAWait() {
+        Code main = code(1).op(Code.SELF).with(Code.SPAWN, 1).with(Code.STORE, 0).op(Code.YIELD, Code.SELF, Code.LOCK, Code.SELF)
+            .with(Code.WAKE, 0).op(Code.SELF, Code.FREE, Code.YIELD, Code.SELF, Code.LOCK, Code.YIELD).with(Code.LOAD, 0)
+            .op(Code.KILL, Code.YIELD, Code.RETURN);
+        Code worker = locked(given()).with(Code.LOAD, 0).op(Code.WAIT).with(Code.LOAD, 0).op(Code.FREE, Code.YIELD);
+        locked(worker).out(4).op(Code.RETURN);
+        Story story = new Story(checks, "LOCKING behind a WAIT", 5, main, worker).run(0).run(1).fiber(1, 0, 2).run(0).run(1).run(0);
+        story.run(1).fiber(1, 0, 1).object(1, 10, 1).run(0).fiber(1, 5, 1).fiber(1, 0, 0).fiber(1, 6, 0).object(1, 10, 0);
+        story.run(1).output().fiber(1, 2, -9).object(1, 8, 0);
     }
 
     /** One that was woken stays in the QUEUE, and is PASSING when it has the lock: it dies at its next POINT. */

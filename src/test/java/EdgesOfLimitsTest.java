@@ -14,6 +14,7 @@ public final class EdgesOfLimitsTest {
         eachWithThirtyFrames();
         eachOfFour();
         eachBetweenRaises();
+        eachAgain();
         outputs();
         numbersWrap();
         divisions();
@@ -176,6 +177,19 @@ public final class EdgesOfLimitsTest {
         }
     }
 
+    /** An EACH behind another one in the same frame begins from 0 again, also if that one was ended by a raise. */
+    private static void eachAgain() {
+        Code put = new Code(1, 0, 0, 1).with(Code.LOAD, 0).op(Code.OUT, Code.RETURN);
+        Code twice = code(0).push(3).with(Code.EACH, 1).push(2).with(Code.EACH, 1).push(4).with(Code.EACH, 1).push(0)
+            .with(Code.EACH, 1).push(1).with(Code.EACH, 1).op(Code.RETURN);
+        new Story(checks, "EACH again", 5, twice, put).turns(1, 1).output(0, 1, 2, 0, 1, 0, 1, 2, 3, 0).fiber(0, 1, 1);
+        Code raises = new Code(1, 0, 0, 1).with(Code.LOAD, 0).op(Code.OUT).with(Code.LOAD, 0).with(Code.JZERO, 6).push(8)
+            .op(Code.RAISE, Code.RETURN);
+        Code caught = code(0).push(4).with(Code.EACH, 1).op(Code.RETURN, Code.OUT).push(2).with(Code.EACH, 2).op(Code.RETURN)
+            .handler(1, 2, 3);
+        new Story(checks, "EACH behind a raise", 5, caught, raises, put).turns(1, 1).output(0, 1, 8, 0, 1).fiber(0, 1, 1);
+    }
+
     /** "OUT: to the world's OUTPUT (the first 500 are kept)": 499, 500, 501 numbers. */
     private static void outputs() {
         for (int many : new int[] {499, 500, 501, 502}) {
@@ -305,6 +319,18 @@ public final class EdgesOfLimitsTest {
         Code below = code(0).push(5).with(Code.CALL, 1).op(Code.OUT, Code.RETURN, Code.OUT, Code.RETURN).handler(0, 1, 4).handler(1, 2, 4);
         Code middle = code(0).with(Code.CALL, 2).op(Code.RETURN);
         new Story(checks, "two frames below", 5, below, middle, code(0).push(3).op(Code.RAISE)).turns(1, 1).output(3).fiber(0, 4, 0);
+        Code alone = code(0).push(1).op(Code.SELF).push(9).op(Code.RAISE, Code.RETURN, Code.YIELD, Code.OUT, Code.RETURN).handler(3, 4, 5);
+        new Story(checks, "that number alone", 5, alone).turns(1, 1).frame(0, 0, 1, 5).frame(0, 0, 2, 1).frame(0, 0, 30, 9)
+            .frame(0, 0, 31, 0).turns(1, 1).output(9);
+        Code refill = code(0).push(1).push(2).push(9).op(Code.RAISE, Code.RETURN);
+        for (int k = 0; k < 11; k++) {
+            refill.push(20 + k);
+        }
+        for (int k = 0; k < 12; k++) {
+            refill.op(Code.OUT);
+        }
+        new Story(checks, "there is room for eleven more", 5, refill.op(Code.RETURN).handler(3, 4, 5)).turns(1, 1)
+            .output(30, 29, 28, 27, 26, 25, 24, 23, 22, 21, 20, 9);
         Code full = code(0);
         for (int k = 0; k < 12; k++) {
             full.push(k);

@@ -11,6 +11,7 @@ public final class EdgesOfLocksTest {
         freeAtZero();
         waitTheOwnerAlone();
         waitWithItsCount();
+        countOfAnotherLock();
         waitHandsOn();
         wakeTheOwnerAlone();
         wakeNoneOneAll();
@@ -142,6 +143,17 @@ public final class EdgesOfLocksTest {
             story.run(0).object(1, 8, 1).object(1, 9, count).object(1, 11, 0).object(1, 10, 0).fiber(1, 0, 0).fiber(1, 6, 1);
             story.run(1).object(1, 8, 1).object(1, 9, count).fiber(1, 3, 2 * count + 2);
         }
+    }
+
+    /** "COUNT is 1, or that with which it came to the WAITERS": one that had waited comes by LOCK later, with 1. */
+    private static void countOfAnotherLock() {
+        Code main = spawns(code(0), 1).op(Code.YIELD, Code.SELF, Code.LOCK, Code.SELF).with(Code.WAKE, 0)
+            .op(Code.SELF, Code.FREE, Code.YIELD, Code.SELF, Code.LOCK, Code.YIELD, Code.SELF, Code.FREE, Code.YIELD, Code.RETURN);
+        Code worker = frees(frees(waits(lock(lock(given()))))).op(Code.YIELD);
+        lock(worker).op(Code.YIELD, Code.RETURN);
+        Story story = new Story(checks, "LOCK behind a WAIT", 5, main, worker).run(0).run(1).run(0).object(1, 9, 2).run(1);
+        story.object(1, 8, -1).run(0).object(1, 8, 0).run(1).fiber(1, 0, 1).object(1, 20, 1).run(0).object(1, 8, 1).object(1, 9, 1);
+        story.run(1).object(1, 9, 1);
     }
 
     /** "the lock is HANDED ON": to the first of the QUEUE, with COUNT 1, or to no one. */

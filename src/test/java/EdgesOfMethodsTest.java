@@ -4,6 +4,7 @@ public final class EdgesOfMethodsTest {
 
     public static void main(String[] args) {
         reached();
+        byEachJump();
         handlersOfAnInstruction();
         slotsAheadOfIt();
         backs();
@@ -39,6 +40,30 @@ public final class EdgesOfMethodsTest {
         each("a handler", Code.loom(code().op(Code.YIELD, Code.RETURN, Code.RETURN).handler(0, 1, 2)), 2, 1, 1, 1);
         each("none of one that isn't reached",
             Code.loom(code().op(Code.RETURN, Code.YIELD, Code.RETURN).handler(1, 2, 2)), 2, 1, 0, 0);
+    }
+
+    /** JUMPS are 12 to 16: each reaches where it goes, makes slots LIVE by it, and its row tells the row there. */
+    private static void byEachJump() {
+        int[] takes = {0, 1, 2, 1, 2};
+        for (int op = Code.JUMP; op <= Code.JSAME; op++) {
+            Code code = new Code(1, 0, 0, 1).op(Code.YIELD);
+            for (int k = 0; k < takes[op - Code.JUMP]; k++) {
+                code.op(op >= Code.JNONE ? Code.NONE : Code.PUSH);
+            }
+            int at = code.here();
+            code.with(op, at + 3).op(Code.RETURN, Code.RETURN).with(Code.LOAD, 0).op(Code.RETURN);
+            FiberLoom loom = Code.loom(code);
+            String name = "jump " + op + ": ";
+            checks.due(name + "the next one", loom.instruction(0, at + 1, 2), op == Code.JUMP ? 0 : 1);
+            checks.due(name + "the one behind that", loom.instruction(0, at + 2, 2), 0);
+            checks.due(name + "where it goes", loom.instruction(0, at + 3, 2), 1);
+            checks.due(name + "LIVE there", loom.instruction(0, at + 3, 30), 1);
+            checks.due(name + "LIVE at the jump", loom.instruction(0, at, 30), 1);
+            checks.due(name + "LIVE at first", loom.instruction(0, 0, 30), 1);
+            checks.due(name + "its row", loom.row(0, at + 2, 0), op);
+            checks.due(name + "goes to the row", loom.row(0, at + 2, 1), at + 5);
+            checks.due(name + "where that begins", loom.row(0, at + 5, 0), Code.LOAD);
+        }
     }
 
     /**

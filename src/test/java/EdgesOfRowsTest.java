@@ -11,6 +11,7 @@ public final class EdgesOfRowsTest {
         numbersOfJumps();
         rowAtItsEnds();
         most();
+        allThatFits();
         checks.finish();
     }
 
@@ -208,5 +209,46 @@ public final class EdgesOfRowsTest {
         checks.due("the last row", loom.row(0, rows - 1, 0), 12);
         checks.due("the last CALL's row", loom.row(0, rows - 1, 1), 1 + first + 4 * (calls - 1) + 2);
         checks.due("none behind it", loom.row(0, rows, 0), -1);
+    }
+
+    /** 30 frames with 12 slots that are LIVE and 12 on the stack each: 720 are packed, and come back. */
+    private static void allThatFits() {
+        Code code = new Code(0, 0, 0, 12);
+        for (int v = 0; v < 12; v++) {
+            code.op(Code.SELF).with(v % 2 == 0 ? Code.GET : Code.FETCH, 0).with(Code.STORE, v);
+        }
+        code.op(Code.SELF, Code.COPY).with(Code.GET, 0).push(1).op(Code.ADD).with(Code.PUT, 0);
+        code.op(Code.SELF).with(Code.GET, 0).push(30).op(Code.SUB);
+        int jump = code.here();
+        code.with(Code.JZERO, 0);
+        twelve(code);
+        code.with(Code.CALL, 0);
+        int over = code.here();
+        code.with(Code.JUMP, 0);
+        code.patch(jump, code.here());
+        twelve(code);
+        code.op(Code.YIELD);
+        code.patch(over, code.here());
+        for (int k = 0; k < 12; k++) {
+            code.op(Code.DROP);
+        }
+        for (int v = 0; v < 12; v++) {
+            code.with(Code.LOAD, v).op(v == 0 ? Code.OUT : Code.DROP);
+        }
+        Story story = new Story(checks, "all that fits", 100, code.op(Code.RETURN)).turns(1, 1).fiber(0, 4, 30);
+        checks.due("SITES", story.loom.packed(0, 0, -1), 30);
+        checks.due("all", story.loom.packed(0, 1, -1) + story.loom.packed(0, 2, -1), 720);
+        int[] wants = new int[30];
+        for (int k = 0; k < 30; k++) {
+            story.frame(0, k, 2, 12).frame(0, k, 10, k).frame(0, k, 30, 3).frame(0, k, 41, 1);
+            wants[k] = 29 - k;
+        }
+        story.turns(1, 1).output(wants).fiber(0, 1, 1);
+    }
+
+    private static void twelve(Code code) {
+        for (int k = 0; k < 6; k++) {
+            code.push(3 + k).op(Code.SELF);
+        }
     }
 }

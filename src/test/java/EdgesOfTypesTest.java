@@ -16,6 +16,7 @@ public final class EdgesOfTypesTest {
         anotherType();
         whatComes();
         callsAndSpawns();
+        resultsOfCalls();
         results();
         unsetSlots();
         moreThanTwelve();
@@ -24,7 +25,9 @@ public final class EdgesOfTypesTest {
         stackOfAHandler();
         slotsThatMeet();
         noNext();
+        eachWithItsOwnState();
         roundsByNumber();
+        roundsTillNothingChanges();
         eachMethods();
         firstEach();
         checks.finish();
@@ -134,6 +137,16 @@ public final class EdgesOfTypesTest {
         checks.due(name + ": no more", loom.instruction(0, next, 50 + behind.length()), -1);
     }
 
+    /** What a CALL of method 0 gives: nothing, an N, or an R. */
+    private static void resultsOfCalls() {
+        for (int result = 0; result < 3; result++) {
+            Code main = code().push(1).with(Code.CALL, 0).op(Code.RETURN);
+            FiberLoom loom = Code.loom(callee(1, 0, result), main);
+            checks.due("how many of " + result, loom.instruction(1, 2, 4), result == 0 ? 0 : 1);
+            checks.due("the type of " + result, loom.instruction(1, 2, 50), result == 0 ? -1 : result);
+        }
+    }
+
     private static Code callee(int params, int types, int result) {
         Code code = new Code(params, types, result, params);
         return result == 0 ? code.op(Code.RETURN)
@@ -152,8 +165,11 @@ public final class EdgesOfTypesTest {
                     Code callee = callee(params, types, types % 3);
                     String name = "OP " + op + " of " + wants;
                     due(name, 0, 0, 0, stack(code(), wants).with(op, 1).op(Code.RETURN), callee);
+                    due(name + " of method 0", 0, 0, 0, callee, stack(code(), wants).with(op, 0).op(Code.RETURN));
                     if (params > 0) {
                         String fewer = wants.substring(1);
+                        due(name + " of method 0 with " + fewer, 2, 1, params - 1, callee,
+                            stack(code(), fewer).with(op, 0).op(Code.RETURN));
                         due(name + " with " + fewer, 2, 0, params - 1,
                             stack(code(), fewer).with(op, 1).op(Code.RETURN), callee);
                     }
@@ -334,6 +350,50 @@ public final class EdgesOfTypesTest {
         return code;
     }
 
+    /** "each with the state that it has then": not with what the one ahead of it left. */
+    private static void eachWithItsOwnState() {
+        Code stacks = code().push(1).with(Code.JZERO, 4).op(Code.NONE, Code.RETURN).push(5).op(Code.OUT, Code.RETURN);
+        due("a stack from a jump", 0, 0, 0, stacks);
+        Code other = code().push(1).push(0).with(Code.JZERO, 6).op(Code.DROP, Code.NONE, Code.RETURN, Code.OUT, Code.RETURN);
+        due("an N from a jump, an R ahead", 0, 0, 0, other);
+        Code turned = code().op(Code.NONE).push(0).with(Code.JZERO, 6).op(Code.DROP, Code.PUSH, Code.RETURN, Code.LOCK, Code.RETURN);
+        due("an R from a jump, an N ahead", 0, 0, 0, turned);
+        FiberLoom below = Code.loom(code().push(1).push(0).with(Code.JZERO, 6).op(Code.DROP, Code.NONE, Code.RETURN, Code.NEW, Code.RETURN));
+        checks.due("below what comes", below.instruction(0, 7, 50), 1);
+        checks.due("what comes", below.instruction(0, 7, 51), 2);
+        Code deeper = code().push(1).with(Code.JZERO, 5).op(Code.NONE, Code.NONE, Code.RETURN).op(Code.DROP);
+        due("how many are on it", 2, 0, 5, deeper.op(Code.RETURN));
+        Code slots = code().push(1).with(Code.JZERO, 5).op(Code.NONE).with(Code.STORE, 0).op(Code.RETURN).with(Code.LOAD, 0);
+        due("slots from a jump", 3, 0, 5, slots.op(Code.RETURN));
+        Code types = code().push(1).with(Code.STORE, 0).push(1).with(Code.JZERO, 7).op(Code.NONE).with(Code.STORE, 0)
+            .op(Code.RETURN).with(Code.LOAD, 0).op(Code.OUT, Code.RETURN);
+        due("a slot's type from a jump", 0, 0, 0, types);
+        int[] kinds = {1, 2, 1, 1, 2, 2, 1};
+        Code stored = code();
+        for (int kind : kinds) {
+            stored.op(kind == 1 ? Code.PUSH : Code.NONE).with(Code.STORE, 1);
+        }
+        FiberLoom loom = Code.loom(stored.op(Code.RETURN));
+        for (int k = 0; k < kinds.length; k++) {
+            checks.due("slot 1 is what was STOREd last, " + k, loom.instruction(0, 2 * k + 2, 11), kinds[k]);
+            checks.due("slot 0 isn't touched", loom.instruction(0, 2 * k + 2, 10), 0);
+            checks.due("slot 2 isn't touched", loom.instruction(0, 2 * k + 2, 12), 0);
+        }
+    }
+
+    /** "A round in which no state changes is the method's last one": here the second and later change slots alone. */
+    private static void roundsTillNothingChanges() {
+        for (int loops = 1; loops <= 6; loops++) {
+            Code code = code().push(1).with(Code.STORE, 0).with(Code.LOAD, 0).op(Code.OUT);
+            for (int k = 0; k < loops; k++) {
+                int back = k == 0 ? 2 : 4 + 3 * (k - 1);
+                code.op(Code.YIELD).push(0).with(Code.JZERO, back);
+            }
+            code.op(Code.NONE).with(Code.STORE, 0).with(Code.JUMP, 4 + 3 * (loops - 1));
+            due("UNSET comes back over " + loops, 3, 0, 2, code);
+        }
+    }
+
     /**
      * "In a ROUND all instructions that are reached (by then) are looked at, by number": one that
      * is reached from behind waits for the next round, one further on doesn't.
@@ -394,6 +454,9 @@ public final class EdgesOfTypesTest {
         Code one = code().push(1).with(Code.EACH, 2).op(Code.RETURN);
         due("of a later method", 7, 1, 1, good, one, bad);
         due("of the first of two methods", 7, 0, 1, one, one, bad);
+        Code ofFirst = code().push(1).with(Code.EACH, 0).op(Code.RETURN);
+        due("method 0 fits", 0, 0, 0, good, ofFirst);
+        due("method 0 doesn't", 7, 1, 1, bad, ofFirst);
         due("a FAULT 6 of a later method is ahead", 6, 3, 0, one, one, bad, code().op(Code.YIELD));
         due("a FAULT 2 of a later method is ahead", 2, 3, 0, one, one, bad, code().op(Code.DROP));
     }
