@@ -308,7 +308,8 @@ public final class EdgesOfCallsTest {
         for (int k = 0; k < 8; k++) {
             quiet.with(Code.SPAWN, 7).op(Code.DROP, Code.NEW, Code.DROP);
         }
-        return new Code[] {main, locks, waits, joins, raises, sleeps, quiet.op(Code.YIELD, Code.RETURN), code().op(Code.YIELD, Code.RETURN)};
+        Code yields = code().op(Code.YIELD, Code.RETURN);
+        return new Code[] {main, locks, waits, joins, raises, sleeps, quiet.op(Code.YIELD, Code.RETURN), yields};
     }
 
     /** What was before begin() is nowhere to be seen behind it, however long it had run. */

@@ -23,6 +23,7 @@ public final class EdgesOfLimitsTest {
         fieldsAtTheirEnds();
         firstHandler();
         paramsOfCallsAndSpawns();
+        resultsOfCalls();
         checks.finish();
     }
 
@@ -360,6 +361,35 @@ public final class EdgesOfLimitsTest {
                     story.turns(1, 1);
                 }
                 story.output(wants).fiber(0, 1, 1);
+            }
+        }
+    }
+
+    /** "RETURN: its own result (what else is on the stack goes)": with 0, 1 and 11 more, and what the caller has stays. */
+    private static void resultsOfCalls() {
+        for (int more : new int[] {0, 1, 11}) {
+            for (int result = 0; result <= 2; result++) {
+                Code callee = new Code(1, 0, result, 1);
+                for (int k = 0; k < more; k++) {
+                    callee.push(60 + k);
+                }
+                if (result > 0) {
+                    callee.op(result == 2 ? Code.SELF : Code.LOAD);
+                }
+                callee.op(Code.RETURN);
+                Code main = code(0).push(4).push(33).with(Code.CALL, 1).op(Code.YIELD);
+                main.op(result == 2 ? Code.JNONE : Code.OUT);
+                main.patch(main.here() - 1, main.here());
+                main.op(result == 0 ? Code.YIELD : Code.OUT).op(Code.RETURN);
+                String name = "result " + result + " with " + more + " more";
+                Story story = new Story(checks, name, 5, main, callee).turns(1, 1).fiber(0, 4, 1).frame(0, 0, 2, result == 0 ? 1 : 2);
+                story.frame(0, 0, 30, 4).frame(0, 0, 31, result == 0 ? 0 : result == 1 ? 33 : 1).frame(0, 0, 32, 0);
+                story.turns(2, result == 0 ? 2 : 1).fiber(0, 1, 1);
+                if (result == 1) {
+                    story.output(33, 4);
+                } else {
+                    story.output(4);
+                }
             }
         }
     }
