@@ -1118,12 +1118,18 @@ public final class FiberLoom {
     private static final class Thing {
         /** Four numbers, then four references. */
         final int[] fields = new int[8];
-        final Line queue = new Line();
-        final Line waiters = new Line();
+        final Line queue;
+        final Line waiters;
         int owner = NONE;
         int count;
         /** The fiber whose own object it is, or NONE. */
         int ofFiber = NONE;
+
+        /** Its rows are handed in, since calls that made them here would go one deeper. */
+        Thing(Line queue, Line waiters) {
+            this.queue = queue;
+            this.waiters = waiters;
+        }
 
         void renew(int fiber) {
             Arrays.fill(fields, 0);
@@ -1560,7 +1566,7 @@ public final class FiberLoom {
                 return 0;
             }
             if (things[thingCount] == null) {
-                things[thingCount] = new Thing();
+                things[thingCount] = new Thing(new Line(), new Line());
             }
             things[thingCount].renew(ofFiber);
             thingCount++;

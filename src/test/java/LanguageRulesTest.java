@@ -29,10 +29,12 @@ import javax.tools.ToolProvider;
 /** LANGUAGE.md, held against the class as the compiler understands it; each check has its rule's number. */
 public final class LanguageRulesTest {
     private static final Checks checks = new Checks();
-    /** Rule 11 says "some" of these three. */
-    private static final int SOME_LINES = 66;
-    private static final int SOME_CLASSES = 13;
-    private static final int SOME_FIELDS = 22;
+    /** Rule 11; where it says "some" the number itself is held to, too. */
+    private static final int MOST_LINES = 60;
+    private static final int MOST_CLASSES = 12;
+    private static final int MOST_FIELDS = 20;
+    private static final int MOST_PARAMETERS = 7;
+    private static final int DEEPEST = 8;
     private static final Set<String> FACE = Set.of("NONE int", "FiberLoom()", "feed(int,int,int,int,int)", "load(int)",
         "fault(int)", "method(int,int)", "instruction(int,int,int)", "row(int,int,int)", "begin(int,int,int)",
         "turns(int,int,int)", "fiber(int,int,int)", "frame(int,int,int,int)", "packed(int,int,int)", "object(int,int,int)",
@@ -121,7 +123,7 @@ public final class LanguageRulesTest {
                     && !((VariableTree) member).getModifiers().getFlags().contains(Modifier.STATIC);
                 fields += own ? 1 : 0;
             }
-            checks.due("rule 11: " + fields + " fields of " + it, fields <= SOME_FIELDS, true);
+            checks.due("rule 11: " + fields + " fields of " + it, fields <= MOST_FIELDS, true);
             Element before = within;
             within = it;
             super.visitClass(tree, nothing);
@@ -150,8 +152,8 @@ public final class LanguageRulesTest {
             Element before = within;
             within = element();
             calls.computeIfAbsent(within, key -> new HashSet<>());
-            checks.due("rule 11: " + line(tree) + "seven parameters", tree.getParameters().size() <= 7, true);
-            checks.due("rule 11: " + line(tree) + lines(tree) + " lines", lines(tree) <= SOME_LINES, true);
+            checks.due("rule 11: " + line(tree) + tree.getParameters().size() + " parameters", tree.getParameters().size() <= MOST_PARAMETERS, true);
+            checks.due("rule 11: " + line(tree) + lines(tree) + " lines", lines(tree) <= MOST_LINES, true);
             super.visitMethod(tree, nothing);
             within = before;
             return null;
@@ -174,8 +176,8 @@ public final class LanguageRulesTest {
             Element callee = element();
             String owner = callee.getEnclosingElement().getSimpleName().toString();
             String name = callee.getSimpleName().toString();
+            calls(callee);
             if (callee.getEnclosingElement().toString().startsWith("FiberLoom")) {
-                calls(callee);
                 boolean fixed = callee.getModifiers().contains(Modifier.STATIC) || callee.getModifiers().contains(Modifier.PRIVATE)
                     || callee.getEnclosingElement().getModifiers().contains(Modifier.FINAL);
                 boolean making = within.getKind() == ElementKind.CONSTRUCTOR;
@@ -195,13 +197,14 @@ public final class LanguageRulesTest {
             checks.due("rule 2: " + line(tree) + "no class without a name", tree.getClassBody() == null, true);
             checks.due("rule 4: " + line(tree) + owner,
                 owner.startsWith("FiberLoom") || owner.matches("java\\.lang\\.String(Builder)?|java\\.util\\.ArrayList"), true);
-            if (owner.startsWith("FiberLoom")) {
-                calls(made);
-            }
+            calls(made);
             return super.visitNewClass(tree, nothing);
         }
 
-        /** How many calls stand open at most, without recursion; a constructor makes its class's fields too. */
+        /**
+         * How many calls stand open at most, without recursion, those of the library and of Object's
+         * constructor among them; a constructor makes its class's fields too.
+         */
         private int depth(Element one) {
             if (depths.containsKey(one)) {
                 return depths.get(one);
@@ -222,12 +225,12 @@ public final class LanguageRulesTest {
 
         void finish() {
             checks.due("one class and no package", unit.getTypeDecls().size() == 1 && unit.getPackageName() == null, true);
-            checks.due("rule 11: " + classes.size() + " classes", classes.size() <= SOME_CLASSES, true);
+            checks.due("rule 11: " + classes.size() + " classes", classes.size() <= MOST_CLASSES, true);
             int deepest = 0;
             for (Element one : new ArrayList<>(calls.keySet())) {
                 deepest = Math.max(deepest, depth(one));
             }
-            checks.due("rule 11: calls are " + deepest + " deep", deepest <= 8, true);
+            checks.due("rule 11: calls are " + deepest + " deep", deepest <= DEEPEST, true);
             face();
         }
 
